@@ -238,8 +238,12 @@ public final class AsTheLastHeMet {
             return refuse(why);
         }
         beforeText.becomeAs(now);
-        int items = reader.readAll(shelf);
-        if (items == NONE) {
+        reader.begin(shelf);
+        int items = 1;
+        while (items < LONGEST_ROW && reader.readItem()) {
+            items++;
+        }
+        if (!reader.isWhole) {
             now.becomeAs(beforeText);
             latestFault = reader.place;
             return refuse(WRONG);
@@ -837,11 +841,6 @@ public final class AsTheLastHeMet {
             turned = kind == MIRROR ? 1 - other.turnedAhead : other.turnedAhead;
         }
 
-        void takeAllOf(Walker other) {
-            takeGaitOf(other);
-            way = other.wayAhead;
-        }
-
         boolean isBeside(Walker other) {
             int rows = Math.abs(place / SIDE - other.place / SIDE);
             int columns = Math.abs(place % SIDE - other.place % SIDE);
@@ -1146,7 +1145,8 @@ public final class AsTheLastHeMet {
             Walker other = who(behind);
             one.meets = behind != NONE;
             if (one.meets && other.gives() && one.wouldTake(other.gaitAhead)) {
-                one.takeAllOf(other);
+                one.takeGaitOf(other);
+                one.way = other.wayAhead;
             }
         }
 
@@ -1180,7 +1180,7 @@ public final class AsTheLastHeMet {
         }
     }
 
-    /** Reads streets from a row; where one of its functions answers NONE or false, its place is the fault. */
+    /** Reads streets from a row. Where nothing more can be read and the text isn't whole, its place is the fault. */
     private static final class Reader {
         private static final int GAIT = 0;
         private static final int WALL = 1;
@@ -1190,6 +1190,7 @@ public final class AsTheLastHeMet {
         private static final int WORDS = 5;
 
         int place = 0;
+        boolean isWhole = false;
         private int size = 0;
         private int numberPlace = 0;
         private final int[] letters = new int[LONGEST_ROW];
@@ -1199,47 +1200,38 @@ public final class AsTheLastHeMet {
             this.town = town;
         }
 
-        /** How many items a text has, all of them told to the town; NONE, and the town half told, at a fault. */
-        int readAll(Shelf text) {
+        void begin(Shelf text) {
             place = 0;
+            isWhole = false;
             size = text.size;
             for (int i = 0; i < size && i < letters.length; i++) {
                 letters[i] = text.numberAt(i);
             }
-            for (int items = 1; items <= LONGEST_ROW; items++) {
-                int begin = place;
-                int word = readWord();
-                if (hasNoRoomFor(word)) {
-                    place = begin;
-                    return NONE;
-                }
-                if (!readItem(word)) {
-                    return NONE;
-                }
-                if (place >= size) {
-                    return items;
-                }
-                if (!readSign(';')) {
-                    return NONE;
-                }
+        }
+
+        /** Reads an item and tells it to the town: whether another one is to come. */
+        boolean readItem() {
+            int begin = place;
+            int word = readWord();
+            if (hasNoRoomFor(word)) {
+                place = begin;
+                return false;
             }
-            return NONE;
+            boolean told = false;
+            switch (word) {
+                case GAIT: told = readGait(); break;
+                case WALL: told = readWall(); break;
+                case OPEN: told = readOpen(); break;
+                case WALKERS: told = readWalker(); break;
+                case BEATS: told = readBeats(); break;
+                default: break;
+            }
+            isWhole = told && place >= size;
+            return told && readSign(';');
         }
 
         private boolean hasNoRoomFor(int word) {
             return word == GAIT && !town.hasRoomForGait() || word == WALKERS && !town.hasRoomForWalker();
-        }
-
-        /** What stands behind an item's word. */
-        private boolean readItem(int word) {
-            switch (word) {
-                case GAIT: return readGait();
-                case WALL: return readWall();
-                case OPEN: return readOpen();
-                case WALKERS: return readWalker();
-                case BEATS: return readBeats();
-                default: return false;
-            }
         }
 
         private static String wordBy(int word) {

@@ -182,7 +182,10 @@ public final class ModelTest {
         switch (name) {
             case "row": return new long[] {some(8), some(4), draws.nextInt(8) == 0 ? some(161) : draws.nextInt(20)};
             case "set": return new long[] {some(8), some(20), draws.nextBoolean() ? draws.nextInt(4) : draws.nextLong()};
-            case "copy": return new long[] {some(8), some(8), some(10), some(10), some(10)};
+            case "copy": {
+                long from = some(8);
+                return new long[] {from, draws.nextBoolean() ? from : some(8), some(8), some(8), some(8)};
+            }
             case "element": return new long[] {some(8), some(20)};
             case "show": return new long[] {some(8), draws.nextInt(4) == 0 ? -1 : some(6)};
             case "holds": return new long[] {some(8)};
