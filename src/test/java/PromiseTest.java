@@ -31,6 +31,7 @@ public final class PromiseTest {
         promise24Ring();
         promise25Alone();
         promise26Alike();
+        lastBeats();
         promise27Hire();
         promise28Fit();
         promise29Began();
@@ -572,7 +573,6 @@ public final class PromiseTest {
         walkerIs("taught, still turned", alone, 0, 0, 3, 1, 0, 1);
         // At a wall the turn to the right is one to the left for him: from 3 to 2.
         willBe(alone, 2, 0, 0, 2, 1, 0, 1);
-        // A turned keeper gives a mirror what is not turned: 0 becomes turned by 1, is taken by nobody, 2 takes from 0.
         AsTheLastHeMet fickle = Check.told("gait 0 s;gait 0 s;gait 0 s;walker 6 5 0 1 0;walker 1 5 2 0 0");
         due("fickle takes no lower gait", fickle.at(1, 0, 2), 1);
         due("nor its way", fickle.at(1, 0, 1), 0);
@@ -746,6 +746,46 @@ public final class PromiseTest {
         due("never", x.alike(), -1);
     }
 
+    /** A keeper and a walker who first meet in the last beat that counts, or in the next one. */
+    private static void lastBeats() {
+        AsTheLastHeMet last = Check.told("gait 2 rrfsfsff;gait 0 ffflrfs;wall 18;walker 1 2 0 0 0;walker 0 12 0 1 0");
+        due("meet in 400", last.meet(0, 1), 400);
+        due("lost in 400", last.lost(1), 400);
+        due("comes in 400", last.comes(0, 1), 400);
+        due("alike in 400", last.alike(), 400);
+        due("survives 399", last.survives(399), 3);
+        due("survives 400", last.survives(400), 1);
+        due("have in 399", last.have(399, 1), 2);
+        due("have in 400", last.have(400, 1), 0);
+        AsTheLastHeMet late = Check.told("gait 0 s;gait 2 flllsfss;wall 14;wall 25;wall 39;wall 32;wall 48;wall 19;"
+                + "walker 1 26 1 0 0;walker 0 4 3 1 0");
+        due("not in 400", late.meet(0, 1), -1);
+        due("not lost in 400", late.lost(1), -1);
+        due("doesn't come in 400", late.comes(0, 1), -1);
+        due("not alike in 400", late.alike(), -1);
+        late.beat(1);
+        due("a beat later: meet", late.meet(0, 1), 400);
+        AsTheLastHeMet ring = Check.told("gait 2 ffffl;gait 1 sf;wall 18;wall 14;wall 47;wall 37;wall 1;"
+                + "walker 1 17 3 0 0;walker 0 28 3 1 0");
+        due("ring to 400", ring.ring(0), 120);
+        due("ring to 400", ring.ring(1), 280);
+        AsTheLastHeMet lateRing = Check.told("gait 0 srsfslsf;gait 1 rfsfl;walker 1 33 1 0 0;walker 0 43 3 1 0");
+        due("ring to 401", lateRing.ring(0), -6);
+        lateRing.beat(1);
+        due("a beat later: ring", lateRing.ring(0), 288);
+        due("a beat later: ring", lateRing.ring(1), 112);
+        AsTheLastHeMet hire = Check.told("gait 2 frsssrsl;gait 2 ssrf;walker 0 47 2 1 0;walker 0 24 3 1 0");
+        int[] walls = {38, 32, 8, 30, 6, 20, 36, 39, 0, 22, 28, 34, 3, 18, 10};
+        for (int place : walls) {
+            hire.wall(place, true);
+        }
+        due("hire in 100 beats", hire.hire(0, 1), 100);
+        due("hire in 100 beats", hire.hire(0, 0), 124);
+        AsTheLastHeMet lateHire = Check.told("gait 1 slsf;gait 0 lsrffr;walker 0 14 0 1 0;walker 3 35 1 1 0");
+        due("hire in 101 beats", lateHire.hire(0, 1), -1);
+        due("hire in 101 beats", lateHire.hire(0, 0), -1);
+    }
+
     private static void promise27Hire() {
         AsTheLastHeMet x = Check.told("gait 0 f;gait 0 s;gait 0 l;walker 0 24 0 1 0");
         // From 3 downwards in 3 beats, from 10 in 2, from 17 in 1: 17 is the first place a beat off, way 2.
@@ -784,11 +824,10 @@ public final class PromiseTest {
         hireAtLast();
     }
 
-    /** A hire that is soonest late, and one that would be too late. */
+    /** Hires in a lane where but few places are free. */
     private static void hireAtLast() {
-        // He sits at 6; all others are walls but 0 to 5, and the one who begins at 5 is a beat off.
-        StringBuilder text = new StringBuilder("gait 2 f;gait 0 s;walker 0 6 0 1 0");
-        AsTheLastHeMet x = Check.told(text.toString());
+        // He sits at 6; all others are walls at first, but 0: none may come to him.
+        AsTheLastHeMet x = Check.told("gait 2 f;gait 0 s;walker 0 6 0 1 0");
         for (int place = 7; place < 49; place++) {
             x.wall(place, true);
         }
@@ -1047,6 +1086,7 @@ public final class PromiseTest {
         acted(x, 5, 0, 7, 14, 20, 10);
         acted(x, 5, 1, 7, 28, 11, 20, 10);
         acted(x, 5, 2, 7, 28 ^ 12 ^ 5, 60, 12, 11, 20, 10, 20, 10);
+        acted(x, 5, 2, 6, 26 ^ 11 ^ 5, 60, 12, 11, 20, 10, 20, 10);
         acted(x, 0, 1, Integer.MAX_VALUE, -2, 11, 10);
         acted(x, 1, 0, Integer.MAX_VALUE, Integer.MIN_VALUE + 2, 20, 10);
         x.goes();
@@ -1074,8 +1114,8 @@ public final class PromiseTest {
         due("image", x.image(), 3);
         int met = x.status(4);
         x.goes();
+        due("meetings of these beats", x.beat(5), 5);
         x.goes();
-        x.beat(5);
         Check.write(x, 0, 0, "gait 0 ll;open 40;wall 41;walker 3 48 3 1 0;teach");
         due("fault", x.streets(0), -6);
         Check.write(x, 0, 0, "gait 0 ll;open 40;wall 41;walker 3 48 3 1 0;walker 4 47 3 1 0;walker 5 46 3 1 0");
