@@ -53,8 +53,7 @@ public final class AsTheLastHeMet {
     private final Town now = new Town();
     private final Town thought = new Town();
     private final Town kept = new Town();
-    private final Town beforeText = new Town();
-    private final Reader reader = new Reader(now);
+    private final Reader reader = new Reader();
     private final Acts acts = new Acts();
     private final int[] refusals = new int[REFUSALS + 1];
     /** How the first three walkers, and how the others, were behind each beat: ring() looks back at them. */
@@ -237,17 +236,16 @@ public final class AsTheLastHeMet {
         if (shelf == null || why != 0) {
             return refuse(why);
         }
-        beforeText.becomeAs(now);
-        reader.begin(shelf);
+        reader.begin(shelf, now);
         int items = 1;
         while (items < LONGEST_ROW && reader.readItem()) {
             items++;
         }
         if (!reader.isWhole) {
-            now.becomeAs(beforeText);
             latestFault = reader.place;
             return refuse(WRONG);
         }
+        now.becomeAs(reader.town);
         latestFault = NONE;
         return items;
     }
@@ -865,7 +863,7 @@ public final class AsTheLastHeMet {
         }
     }
 
-    /** Walls, gaits, walkers and what is counted of them: as they are, in thought, in the image, or ahead of a text. */
+    /** Walls, gaits, walkers and what is counted of them: as they are, in thought, in the image, or as a text tells. */
     private static final class Town {
         /** A bit for each place, so that a town is copied without a row. */
         long walls = 0L;
@@ -1194,13 +1192,11 @@ public final class AsTheLastHeMet {
         private int size = 0;
         private int numberPlace = 0;
         private final int[] letters = new int[LONGEST_ROW];
-        private final Town town;
+        /** As things are told so far: the text is told as a whole, or not at all. */
+        final Town town = new Town();
 
-        Reader(Town town) {
-            this.town = town;
-        }
-
-        void begin(Shelf text) {
+        void begin(Shelf text, Town now) {
+            town.becomeAs(now);
             place = 0;
             isWhole = false;
             size = text.size;

@@ -198,7 +198,8 @@ public final class EdgesOfBeatsTest {
     }
 
     private static void meetingsAllAtOnce() {
-        Edge.terms("all at once: if he TAKES (from that one) and that one GIVES, his GAIT, DONE, WAY and TURNED become what that one's were ahead of the MEETING");
+        Edge.terms("all at once: if he TAKES (from that one) and that one GIVES, his GAIT, DONE, WAY and "
+                + "TURNED become what that one's were ahead of the MEETING");
         // Two swap all of these again and again; three and six go round.
         AsTheLastHeMet two = Check.told("gait 0 sss;gait 0 sssss;walker 0 5 1 0 0;walker 0 5 3 1 0");
         for (int n = 0; n <= 16; n++) {

@@ -456,6 +456,12 @@ public final class EdgesOfRowsTest {
         Edge.leaves(3, x -> x.says(0, 5));
         Edge.in(() -> six(5, 48, 47, 41, 40, 34, 46));
         Edge.leaves(2, x -> x.says(0, 5));
+        // The last one is told of the first, too.
+        Edge.in("gait 0 s;walker 0 0 0 0 0;walker 5 1 0 0 0");
+        Edge.leads(1, x -> x.show(0, 1), x -> x.says(0, 5));
+        Edge.leads(1, x -> x.show(0, 1), x -> x.says(0, 1));
+        Edge.in("gait 0 s;walker 0 1 0 0 0;walker 2 1 0 0 0");
+        Edge.leads(1, x -> x.show(0, 1), x -> x.says(0, 2));
         Edge.says("FICKLE how many GAITS have a higher number than his.");
         Edge.in(() -> six(6, 0, 1, 2, 3, 4, 5));
         Edge.leaves(7, x -> x.says(0, 6));

@@ -588,6 +588,10 @@ public final class EdgesOfStreetsTest {
             Edge.faulty(7, "wall 0;" + word);
         }
         Edge.faulty(4, "walls 0");
+        // A text that was told ahead of it is of no help to one whose first word has no room.
+        Edge.in("gait 0 s" + ";gait 0 s".repeat(7) + ";walker 0 0 0 0 0".repeat(4));
+        Edge.faulty(0, "gait 0 s");
+        Edge.faulty(0, "gait");
         // The text itself takes the last room.
         Edge.in("gait 0 s;walker 0 0 0 0 0");
         Edge.faulty(7 * 9, "gait 0 s;".repeat(7) + "gait 0 s");

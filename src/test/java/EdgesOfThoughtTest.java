@@ -49,7 +49,8 @@ public final class EdgesOfThoughtTest {
             AsTheLastHeMet then = Worlds.behind(Worlds.lively(), n);
             for (int walker = 0; walker < 5; walker++) {
                 for (int what = 0; what < 5; what++) {
-                    Edge.due("at(" + n + ", " + walker + ", " + what + ")", x.at(n, walker, what), then.walkerOf(walker, what + 1));
+                    Edge.due("at(" + n + ", " + walker + ", " + what + ")", x.at(n, walker, what),
+                            then.walkerOf(walker, what + 1));
                 }
             }
         }
@@ -311,9 +312,16 @@ public final class EdgesOfThoughtTest {
             only.walker(him[0], him[1], him[2], him[3], him[6]);
             for (int n : BEATS) {
                 for (int what = 0; what < 5; what++) {
-                    Edge.due("alone(" + n + ", " + walker + ", " + what + ")", all.alone(n, walker, what), only.at(n, 0, what));
+                    Edge.due("alone(" + n + ", " + walker + ", " + what + ")", all.alone(n, walker, what),
+                            only.at(n, 0, what));
                 }
             }
+        }
+        // Those who are where he is, of lower and of higher numbers, are not there then.
+        Edge.in("gait 0 s;gait 0 s;walker 0 5 0 0 0;walker 1 5 1 1 0;walker 0 5 2 0 0;walker 5 6 3 1 0");
+        for (int walker : new int[] {0, 2}) {
+            Edge.leaves(0, x -> x.alone(1, walker, 2));
+            Edge.leaves(walker, x -> x.alone(400, walker, 1));
         }
         // He goes on from how he is: turned, and behind two of his steps.
         Edge.in("gait 0 sslf;walker 1 24 0 0 0;walker 4 24 2 0 0;beat 2");
@@ -445,7 +453,8 @@ public final class EdgesOfThoughtTest {
     }
 
     private static void hireBeats() {
-        Edge.terms("that by which it is soonest (100 BEATS at most) that all have it: 4 times the PLACE and the WAY; the BEAT; NONE.");
+        Edge.terms("that by which it is soonest (100 BEATS at most) that all have it: 4 times the PLACE and the WAY; the BEAT; "
+                + "NONE.");
         Edge.in(() -> {
             AsTheLastHeMet x = Check.told("gait 2 frsssrsl;gait 2 ssrf;walker 0 47 2 1 0;walker 0 24 3 1 0");
             for (int place : new int[] {38, 32, 8, 30, 6, 20, 36, 39, 0, 22, 28, 34, 3, 18, 10}) {
@@ -505,8 +514,8 @@ public final class EdgesOfThoughtTest {
         Edge.says("FIT of the first n (0 to 10) threes of the ROW in SHELF s.");
         Edge.leaves(0, x -> x.fit(4, 0));
         Edge.leaves(0, x -> x.fit(6, 0));
-        Edge.in(() -> seen(TWO, 0, 0, 0, 0, 3, 1, 0, 3, 0, 1, 1, 0, 400, 3, 1, 28, 0, 0, 399, 6, 0, 400, 0, 0, 0, 0, 0, 3, 3, 0,
-                3, 3, 1));
+        Edge.in(() -> seen(TWO, 0, 0, 0, 0, 3, 1, 0, 3, 0, 1, 1, 0, 400, 3, 1, 28, 0, 0, 399, 6, 0, 400, 0, 0, 0, 0, 0,
+                3, 3, 0, 3, 3, 1));
         // The third of these is not so, nor the eighth: round along the edge he is back in 28 beats, and 400 are 14 rounds
         // and 8 beats.
         int[] so = {0, 1, 2, 2, 3, 4, 5, 6, 6, 7, 8};
@@ -560,6 +569,10 @@ public final class EdgesOfThoughtTest {
             Edge.refused(-6, x -> x.fit(1, 2));
             Edge.refused(-6, x -> x.fit(1, 3));
             Edge.leaves(1, x -> x.fit(1, 1));
+            Edge.in(() -> seen(TWO, three));
+            Edge.refused(-6, x -> x.fit(1, 1));
+            Edge.refused(-6, x -> x.began(1, 1, 0));
+            Edge.leaves(0, x -> x.fit(1, 0));
         }
         Edge.in(() -> seen(TWO, 400, 48, 1));
         Edge.leaves(0, x -> x.fit(1, 1));
@@ -604,8 +617,9 @@ public final class EdgesOfThoughtTest {
         // All ten must be so, the last, too.
         Edge.in(() -> seen("gait 0 s;gait 0 s;walker 1 0 0 0 0", new int[27]));
         Edge.leaves(1, x -> x.began(1, 9, 0));
-        Edge.in(() -> seen("gait 0 s;gait 0 s;walker 1 0 0 0 0", 0, 0, 0, 0, 0, 0, 0, 0, 0, 0, 0, 0, 0, 0, 0, 0, 0, 0, 0, 0, 0, 0, 0,
-                0, 0, 0, 0, 0, 0, 1));
+        int[] lastOther = new int[30];
+        lastOther[29] = 1;
+        Edge.in(() -> seen("gait 0 s;gait 0 s;walker 1 0 0 0 0", lastOther));
         Edge.leaves(0, x -> x.began(1, 10, 0));
         Edge.leaves(1, x -> x.began(1, 9, 0));
         Edge.terms("(else as he is,");
@@ -621,7 +635,8 @@ public final class EdgesOfThoughtTest {
 
     private static void beganDone() {
         Edge.terms("DONE modulo how many STEPS it has");
-        // Gait g has g + 1 steps, of which he goes on with that one alone that is the next when 7 are done.
+        // Gait g has g + 1 steps, of which he goes on with that one alone that is the next when so many are done: behind
+        // the next beat he is at 1, and at 2 when that step comes again.
         for (int done = 0; done <= 7; done++) {
             int did = done;
             for (int gait = 0; gait <= 7; gait++) {
@@ -637,11 +652,11 @@ public final class EdgesOfThoughtTest {
                     if (did > 0) {
                         x.beat(did);
                     }
-                    Check.fill(x, 1, 1, 1, asked);
+                    Check.fill(x, 1, 1, 1, asked, asked + 1, 1, asked, asked + 2, 2, asked);
                     return x;
                 });
-                Edge.leaves(1 << gait, x -> x.began(1, 1, 0));
-                Edge.leaves(did, x -> x.walkerOf(0, 4));
+                Edge.leaves(1 << gait, x -> x.began(1, 3, 0));
+                Edge.leaves(did % 8, x -> x.walkerOf(0, 4));
             }
         }
     }

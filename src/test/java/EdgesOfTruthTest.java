@@ -220,6 +220,14 @@ public final class EdgesOfTruthTest {
             Edge.due("he is gone", x.walkerOf(left, 0), -5);
             Edge.due("his place is free", x.wall(10 + 2 * left, true), 1);
         }
+        AsTheLastHeMet all = Worlds.full();
+        for (int s = 0; s < 8; s++) {
+            all.show(s, 5);
+        }
+        Edge.due("goes", all.goes(), 5);
+        for (int s = 0; s < 8; s++) {
+            Edge.due("shelf " + s, all.holds(s), -1);
+        }
         Edge.says("-6 there is none.");
         Edge.due("goes", x.goes(), -6);
         Edge.in(AsTheLastHeMet::new);
@@ -360,9 +368,11 @@ public final class EdgesOfTruthTest {
 
     private static void trace() {
         Edge.promise(37);
-        Edge.terms("the numbers of the bodies that ran in the latest act(), in the order in which they began; the first 20 are kept.");
+        Edge.terms("the numbers of the bodies that ran in the latest act(), in the order in which they began; the first 20 are "
+                + "kept.");
         int[][] steps = {{10}, {20, 10}, {10}, {10}, {51, 10}, {20, 10}, {70, 10}};
-        int[][] meets = {{11, 10}, {11, 20, 10}, {30, 11, 10}, {40, 11, 10}, {40, 11, 51, 10}, {11, 20, 10}, {71, 40, 11, 70, 10}};
+        int[][] meets = {{11, 10}, {11, 20, 10}, {30, 11, 10}, {40, 11, 10}, {40, 11, 51, 10}, {11, 20, 10},
+            {71, 40, 11, 70, 10}};
         int[][] takes = {{12, 11, 10, 10}, {12, 11, 20, 10, 20, 10}, {12, 30, 11, 10, 10}, {12, 40, 11, 10, 10},
             {50, 12, 40, 11, 51, 10, 51, 10}, {60, 12, 11, 20, 10, 20, 10}, {12, 71, 40, 11, 70, 10, 70, 10}};
         for (int kind = 0; kind <= 6; kind++) {

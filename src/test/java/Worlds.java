@@ -52,7 +52,7 @@ final class Worlds {
             gait(x, "ssssssss".substring(0, g + 1), 0);
         }
         for (int w = 0; w < 6; w++) {
-            x.walker(0, 10 + 2 * w, 0, w, 0);
+            x.walker(0, 10 + 2 * w, w % 4, w, 9 - w);
         }
         x.show(2, 5);
         return x;
