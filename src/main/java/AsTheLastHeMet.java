@@ -257,14 +257,9 @@ public final class AsTheLastHeMet {
     // ---- what comes of it, in thought
 
     public int at(int n, int walker, int what) {
-        if (!now.hasWalker(walker)) {
-            return refuse(NOBODY);
-        }
-        if (!isUpTo(what, 4)) {
-            return refuse(BEYOND);
-        }
-        if (!isUpTo(n, LAST_BEAT)) {
-            return refuse(WRONG);
+        int why = whyNotTold(n, walker, what);
+        if (why != 0) {
+            return refuse(why);
         }
         think(n);
         return thought.who(walker).told(what + 1);
@@ -363,14 +358,9 @@ public final class AsTheLastHeMet {
     }
 
     public int alone(int n, int walker, int what) {
-        if (!now.hasWalker(walker)) {
-            return refuse(NOBODY);
-        }
-        if (!isUpTo(what, 4)) {
-            return refuse(BEYOND);
-        }
-        if (!isUpTo(n, LAST_BEAT)) {
-            return refuse(WRONG);
+        int why = whyNotTold(n, walker, what);
+        if (why != 0) {
+            return refuse(why);
         }
         think(0);
         thought.keepOnly(walker);
@@ -595,6 +585,17 @@ public final class AsTheLastHeMet {
             return OTHER;
         }
         return shelf.hasRow() ? 0 : NOTHING;
+    }
+
+    /** The refusal of what a walker is behind n beats; 0 if it can be told. */
+    private int whyNotTold(int n, int walker, int what) {
+        if (!now.hasWalker(walker)) {
+            return NOBODY;
+        }
+        if (!isUpTo(what, 4)) {
+            return BEYOND;
+        }
+        return isUpTo(n, LAST_BEAT) ? 0 : WRONG;
     }
 
     /** The refusal of the first n threes of a row; 0 if they are sights. */
